@@ -143,7 +143,7 @@ public final class DeafChain {
 
     public int told(int back, int index) throws IllegalArgumentException {
         checkRange(back, 0, MAX_ARRIVALS - 1);
-        checkRange(index, 0, Integer.MAX_VALUE);
+        checkNotNegative(index);
         return now.arrivals.codeAt(back, index);
     }
 
@@ -217,7 +217,7 @@ public final class DeafChain {
     }
 
     public int waits(int place, int what) throws IllegalArgumentException {
-        checkRange(place, 0, Integer.MAX_VALUE);
+        checkNotNegative(place);
         checkRange(what, 0, NUMBERS_OF_WAITING - 1);
         if (place >= now.waiting.size) {
             return NONE;
@@ -355,6 +355,12 @@ public final class DeafChain {
     private static void checkRange(int value, int lowest, int highest) {
         if (value < lowest || value > highest) {
             throw new IllegalArgumentException("out of range");
+        }
+    }
+
+    private static void checkNotNegative(int value) {
+        if (value < 0) {
+            throw new IllegalArgumentException("below 0");
         }
     }
 

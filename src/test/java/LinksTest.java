@@ -121,6 +121,12 @@ public final class LinksTest {
         CHECK.equal("link(0, 5)", chain.link(0, 5), 9);
         CHECK.equal("link(2, 5), mumbles are paid too,", chain.link(2, 5), 7);
         CHECK.equal("link(2, 6)", chain.link(2, 6), 0);
+        chain.teach(3, 0, -1);
+        chain.teach(3, 29, -1);
+        CHECK.equal("link(3, 2), the first word and the last one,", chain.link(3, 2), 2);
+        CHECK.equal("link(3, 3)", chain.link(3, 3), 0);
+        chain.teach(3, 29, 1);
+        CHECK.equal("link(3, 3), the last word,", chain.link(3, 3), 1);
         CHECK.refused(chain, "link(-1, 7)", () -> chain.link(-1, 7), Check.INDEX);
         CHECK.refused(chain, "link(6, 0)", () -> chain.link(6, 0), Check.INDEX);
         CHECK.refused(chain, "link(0, -1)", () -> chain.link(0, -1), Check.ARGUMENT);
