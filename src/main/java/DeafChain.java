@@ -488,8 +488,8 @@ public final class DeafChain {
     }
 
     /**
-     * The bits of a share from 0.0 to 1.0, as Double.doubleToLongBits has them: that function is not
-     * in the part of the library that LANGUAGE.md leaves. Each step here is exact.
+     * The bits of a share from 0.0 to 1.0, made by hand, as the function that the document names for
+     * them is not in the part of the library that LANGUAGE.md leaves. Each step here is exact.
      */
     private static long bitsOfShare(double share) {
         if (share <= 0.0) {
