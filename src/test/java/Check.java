@@ -1,4 +1,6 @@
 import java.util.function.LongSupplier;
+import java.util.function.Supplier;
+import java.util.function.ToLongFunction;
 
 /** Counts the answers of a test that are not as due, and ends the test with their number told. */
 final class Check {
@@ -8,12 +10,32 @@ final class Check {
 
     private int wrong;
     private int asked;
+    private String sentence = "";
+
+    /** The test of one sentence of the document, which is told with each wrong answer; a test that asks nothing is wrong. */
+    void holds(String sentence, Runnable test) {
+        int before = asked;
+        this.sentence = "\"" + sentence + "\": ";
+        try {
+            test.run();
+        } catch (RuntimeException thrown) {
+            tellWrong("the test threw " + thrown + " at " + thrown.getStackTrace()[0]);
+        }
+        if (asked == before) {
+            tellWrong("nothing was asked");
+        }
+        this.sentence = "";
+    }
+
+    private void tellWrong(String what) {
+        wrong++;
+        System.out.println(sentence + what);
+    }
 
     void equal(String what, long got, long due) {
         asked++;
         if (got != due) {
-            wrong++;
-            System.out.println(what + " answered " + got + ", due is " + due);
+            tellWrong(what + " answered " + got + ", due is " + due);
         }
     }
 
@@ -24,12 +46,23 @@ final class Check {
         equal(what + ", the digest after it,", chain.digest(), before);
     }
 
+    /** As above, and all that can be told of the object behind the call must be as on one that was not asked. */
+    void refused(Supplier<DeafChain> scene, String what, ToLongFunction<DeafChain> call, String due) {
+        DeafChain asked = scene.get();
+        equalText(what, outcome(() -> call.applyAsLong(asked)), "throws." + due);
+        equalText(what + ", all that can be told after it,", Scenes.tellAll(asked), Scenes.tellAll(scene.get()));
+    }
+
     void equalText(String what, String got, String due) {
         asked++;
         if (!got.equals(due)) {
-            wrong++;
-            System.out.println(what + " answered " + got + ", due is " + due);
+            tellWrong(what + " answered " + got + ", due is " + due);
         }
+    }
+
+    void lostIs(DeafChain chain, int place, int word, int times) {
+        equal("lost(" + place + ", 0)", chain.lost(place, 0), word);
+        equal("lost(" + place + ", 1)", chain.lost(place, 1), times);
     }
 
     static String outcome(LongSupplier call) {

@@ -156,39 +156,34 @@ public final class GoingTest {
         CHECK.refused(chain, "count(7)", () -> chain.count(7), Check.ARGUMENT);
     }
 
-    private static void lostIs(DeafChain chain, int place, int word, int times) {
-        CHECK.equal("lost(" + place + ", 0)", chain.lost(place, 0), word);
-        CHECK.equal("lost(" + place + ", 1)", chain.lost(place, 1), times);
-    }
-
     private static void lostWords() {
         DeafChain chain = new DeafChain();
         for (int place = 0; place < 30; place++) {
-            lostIs(chain, place, place, 0);
+            CHECK.lostIs(chain, place, place, 0);
         }
         chain.teach(1, 7, -1);
         chain.teach(2, 9, 8);
         chain.ear(0, 1);
         Check.obey(chain, "say7,7,9,1;go;say9,7;go;say28,29;go");
         CHECK.equal("28, 29 has a loss by the ear", chain.arrival(0, 3), 0);
-        lostIs(chain, 0, 7, 2);
-        lostIs(chain, 1, 9, 2);
-        lostIs(chain, 2, 0, 0);
-        lostIs(chain, 8, 6, 0);
-        lostIs(chain, 9, 8, 0);
-        lostIs(chain, 29, 29, 0);
+        CHECK.lostIs(chain, 0, 7, 2);
+        CHECK.lostIs(chain, 1, 9, 2);
+        CHECK.lostIs(chain, 2, 0, 0);
+        CHECK.lostIs(chain, 8, 6, 0);
+        CHECK.lostIs(chain, 9, 8, 0);
+        CHECK.lostIs(chain, 29, 29, 0);
         chain.teach(1, 29, -1);
         chain.ear(0, 0);
         Check.obey(chain, "say29;go;say9;go");
-        lostIs(chain, 0, 9, 3);
-        lostIs(chain, 1, 7, 2);
-        lostIs(chain, 2, 29, 1);
-        lostIs(chain, 3, 0, 0);
+        CHECK.lostIs(chain, 0, 9, 3);
+        CHECK.lostIs(chain, 1, 7, 2);
+        CHECK.lostIs(chain, 2, 29, 1);
+        CHECK.lostIs(chain, 3, 0, 0);
         chain.teach(4, 0, -1);
         Check.obey(chain, "say0,5;go");
-        lostIs(chain, 2, 0, 1);
-        lostIs(chain, 3, 29, 1);
-        lostIs(chain, 4, 1, 0);
+        CHECK.lostIs(chain, 2, 0, 1);
+        CHECK.lostIs(chain, 3, 29, 1);
+        CHECK.lostIs(chain, 4, 1, 0);
         chain.teach(1, 7, 7);
         CHECK.equal("what was lost stays counted", chain.lost(1, 1), 2);
         CHECK.refused(chain, "lost(-1, 0)", () -> chain.lost(-1, 0), Check.ARGUMENT);

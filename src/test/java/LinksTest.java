@@ -13,18 +13,11 @@ public final class LinksTest {
     }
 
     private static void newObject() {
-        DeafChain chain = new DeafChain();
         CHECK.equal("NONE", DeafChain.NONE, -1);
         for (int link = 0; link < 6; link++) {
-            for (int what = 0; what < 7; what++) {
-                CHECK.equal("new link(" + link + ", " + what + ")", chain.link(link, what), what == 1 ? 1 : 0);
-            }
-            for (int word = 0; word < 30; word++) {
-                for (int what = 0; what < 3; what++) {
-                    CHECK.equal("new meaning", chain.meaning(link, word, what), word);
-                }
-            }
+            newLink(new DeafChain(), link);
         }
+        DeafChain chain = new DeafChain();
         for (int what = 0; what < 7; what++) {
             CHECK.equal("new count(" + what + ")", chain.count(what), 0);
         }
@@ -33,6 +26,17 @@ public final class LinksTest {
         CHECK.equal("new reason", chain.stopped(1), -1);
         CHECK.refused(chain, "restore() of a new object", chain::restore, Check.STATE);
         CHECK.refused(chain, "undo() of a new object", chain::undo, Check.STATE);
+    }
+
+    private static void newLink(DeafChain chain, int link) {
+        for (int what = 0; what < 7; what++) {
+            CHECK.equal("new link(" + link + ", " + what + ")", chain.link(link, what), what == 1 ? 1 : 0);
+        }
+        for (int word = 0; word < 30; word++) {
+            for (int what = 0; what < 3; what++) {
+                CHECK.equal("new meaning", chain.meaning(link, word, what), word);
+            }
+        }
     }
 
     private static void teaching() {
